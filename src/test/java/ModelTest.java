@@ -8,7 +8,7 @@ public final class ModelTest {
         "number", "told"
     };
     private static final int[] EDGES = {
-        Integer.MIN_VALUE, Integer.MIN_VALUE + 1, Integer.MAX_VALUE, Integer.MAX_VALUE - 1, -1, 8, 9, 12, 13, 20, 21
+        Integer.MIN_VALUE, Integer.MIN_VALUE + 1, Integer.MAX_VALUE, Integer.MAX_VALUE - 1, -1, 0, 8, 9, 12, 13, 20, 21
     };
 
     private long seed = 20261116;
