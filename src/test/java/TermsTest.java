@@ -59,9 +59,11 @@ public final class TermsTest {
 
     private static void numbersWrap() {
         edge("NUMBERS (ints that wrap) - share").desk(0, MIN).desk(1, -1).share(0, 1, 0, 1).slate(0, MIN);
-        edge("NUMBERS (ints that wrap) - share with itself").desk(0, -1, MIN, MIN).share(0, 0, 0, 3).slate(0, 1, MIN, MIN);
+        edge("NUMBERS (ints that wrap) - share with itself").desk(0, -1, MIN, MIN).share(0, 0, 0, 3)
+            .slate(0, 1, MIN, MIN);
         edge("NUMBERS (ints that wrap) - spread's sum").desk(0, MAX).desk(1, MAX).spread(0, 1, 1).slate(1, MIN);
-        edge("NUMBERS (ints that wrap) - spread's sum below").desk(0, MAX).desk(1, MIN + 1).spread(0, 1, 1).slate(1, MIN);
+        edge("NUMBERS (ints that wrap) - spread's sum below").desk(0, MAX).desk(1, MIN + 1).spread(0, 1, 1)
+            .slate(1, MIN);
         edge("NUMBERS (ints that wrap) - spread's quotient").desk(0, MIN).desk(1, -1).spread(0, 1, 1).slate(1, MAX);
         edge("NUMBERS (ints that wrap) - climb").desk(0, 0, MAX, MAX - 1).climb(0, 3, 3).slate(0, 0, MIN, MIN);
         edge("NUMBERS (ints that wrap) - rounds").desk(1, MAX).rounds(1, false, 1).slate(1, MIN);
@@ -83,7 +85,8 @@ public final class TermsTest {
             .sum(3L * MIN);
         edge("a SUM (64 bits) - by climb").desk(0, MAX).climb(0, 1, 1).climb(0, 1, 1).climb(0, 1, 1).sum(3L * MAX);
         edge("a SUM (64 bits) - by climb, below").desk(0, MIN).climb(0, 1, 1).climb(0, 1, 1).sum(2L * MIN);
-        Trial most = edge("a SUM (64 bits) - the most that 512 calls can bring").desk(0, MAX, MAX, MAX, MAX, MAX, MAX, MAX, MAX);
+        Trial most = edge("a SUM (64 bits) - the most that 512 calls can bring")
+            .desk(0, MAX, MAX, MAX, MAX, MAX, MAX, MAX, MAX);
         for (int i = 0; i < 500; i++) {
             most.bring(0, true, 8);
         }
@@ -101,11 +104,11 @@ public final class TermsTest {
 
     private static void depth() {
         edge("DEPTH 1 more till that is done").desk(0, 6).desk(1, 3).told(3, 0).share(0, 1, 0, 1).told(3, 0)
-            .spread(0, 1, 1).told(3, 0).climb(0, 1, 1).told(3, 0).find(99, NONE).told(3, 0).rounds(1, true, 1).told(3, 0)
-            .bring(0, false, 1).told(3, 0);
+            .spread(0, 1, 1).told(3, 0).climb(0, 1, 1).told(3, 0).find(99, NONE).told(3, 0).rounds(1, true, 1)
+            .told(3, 0).bring(0, false, 1).told(3, 0);
         edge("DEPTH 1 more till that is done - by a FAILURE").desk(0, 6).desk(1, 0).write(0, 1, 1, NO_PLACE).told(3, 0)
-            .share(0, 1, 0, BY_NOTHING).told(3, 0).share(0, 2, 0, NOT_THERE).told(3, 0).spread(0, 1, BY_NOTHING).told(3, 0)
-            .climb(0, 12, NO_PLACE).told(3, 0).rounds(9, false, NOT_THERE).told(3, 0);
+            .share(0, 1, 0, BY_NOTHING).told(3, 0).share(0, 2, 0, NOT_THERE).told(3, 0).spread(0, 1, BY_NOTHING)
+            .told(3, 0).climb(0, 12, NO_PLACE).told(3, 0).rounds(9, false, NOT_THERE).told(3, 0);
         edge("DEEPEST is the greatest DEPTH ever - it does not fall").open(0, 8, 1).climb(0, 5, 5).deepest(5)
             .write(0, 0, 1, 1).climb(0, 4, 4).close(0, 1).deepest(5);
         edge("DEEPEST is the greatest DEPTH ever - it rises").open(0, 8, 1).deepest(0).climb(0, 1, 1).deepest(1)
@@ -126,10 +129,12 @@ public final class TermsTest {
     }
 
     private static void broken() {
-        edge("A HOLD out of which a FAILURE comes is BROKEN").desk(0, 1).ready().write(0, 1, 1, NO_PLACE).counts(1, 1, 1);
+        edge("A HOLD out of which a FAILURE comes is BROKEN").desk(0, 1).ready().write(0, 1, 1, NO_PLACE)
+            .counts(1, 1, 1);
         edge("A HOLD .. is BROKEN - the inner one and the outer one").desk(0, 1).desk(1, 0).ready()
             .share(0, 1, 0, BY_NOTHING).counts(2, 2, 2);
-        edge("A HOLD .. is BROKEN - both of the same DESK").desk(0, 0).ready().share(0, 0, 0, BY_NOTHING).counts(2, 2, 2);
+        edge("A HOLD .. is BROKEN - both of the same DESK").desk(0, 0).ready().share(0, 0, 0, BY_NOTHING)
+            .counts(2, 2, 2);
         edge("A HOLD .. is BROKEN - all that stand open").open(0, 8, 1).ready().climb(0, 9, NO_PLACE).counts(9, 9, 9);
         edge("A HOLD .. is BROKEN - not one that has ended").desk(0, 1, 1, 1).desk(1, 1, 1, 0).ready()
             .spread(0, 1, BY_NOTHING).counts(4, 4, 2);
@@ -148,8 +153,8 @@ public final class TermsTest {
             .write(0, 2, 3, NO_PLACE).sameSlates();
         edge("FAILURE 2, if there is no such place - one ahead of 0").desk(0, 1, 2, 3, 4, 5, 6, 7, 8).desk(1, 3).ready()
             .write(1, -1, 9, NO_PLACE).sameSlates();
-        edge("FAILURE 2, if there is no such place - behind a full slate").desk(0, 1, 2, 3, 4, 5, 6, 7, 8).desk(1, 3).ready()
-            .write(0, 8, 9, NO_PLACE).sameSlates();
+        edge("FAILURE 2, if there is no such place - behind a full slate").desk(0, 1, 2, 3, 4, 5, 6, 7, 8).desk(1, 3)
+            .ready().write(0, 8, 9, NO_PLACE).sameSlates();
         edge("FAILURE 2, if there is no such place - far off").desk(0, 1).ready().write(0, MIN, 9, NO_PLACE)
             .write(0, MAX, 9, NO_PLACE).write(0, 1 << 29, 9, NO_PLACE).sameSlates().counts(3, 3, 3);
         edge("FAILURE 2, if there is no such place - any more").desk(0, 1, 2).close(0, 1).open(0, 1, 1)
@@ -190,7 +195,8 @@ public final class TermsTest {
         edge("BAD ahead of a FAILURE - write").write(8, -1, 1, BAD);
         edge("BAD ahead of a FAILURE - share's b, where a is not there").share(0, 8, 0, BAD);
         edge("BAD ahead of a FAILURE - share's a, where b is not there").share(-1, 0, 0, BAD);
-        edge("BAD ahead of a FAILURE - share, where there is no place").open(0, 1, 1).share(0, 8, 5, BAD).share(8, 0, 5, BAD);
+        edge("BAD ahead of a FAILURE - share, where there is no place").open(0, 1, 1).share(0, 8, 5, BAD)
+            .share(8, 0, 5, BAD);
         edge("BAD ahead of a FAILURE - spread's b, where a is not there").spread(0, 8, BAD);
         edge("BAD ahead of a FAILURE - spread's a, where b is not there").spread(-1, 0, BAD);
         edge("BAD ahead of a FAILURE - climb").climb(0, 13, BAD).climb(0, 0, BAD);

@@ -146,21 +146,30 @@ final class Trial {
     private Trial sameFrom(int first) {
         long[] now = state();
         for (int i = first; i < now.length; i++) {
-            String what = i < TOLD ? "told(" + i + ")" : "number(" + (i - TOLD) / PLACES + ", " + (i - TOLD) % PLACES + ")";
-            checks.due("[" + sentence + "] as it was: " + what, now[i], ready[i]);
+            checks.due("[" + sentence + "] as it was: " + seenBy(i), now[i], ready[i]);
         }
         return this;
     }
 
+    /** What told answers, from 0 on, and behind that the slates, a row of eight for each desk. */
     private long[] state() {
         long[] state = new long[TOLD + DESKS * PLACES];
-        for (int what = 0; what < TOLD; what++) {
-            state[what] = room.told(what);
-        }
-        for (int i = TOLD; i < state.length; i++) {
-            state[i] = room.number((i - TOLD) / PLACES, (i - TOLD) % PLACES);
+        for (int i = 0; i < state.length; i++) {
+            state[i] = i < TOLD ? room.told(i) : room.number(deskOf(i), placeOf(i));
         }
         calls += state.length;
         return state;
+    }
+
+    private static String seenBy(int i) {
+        return i < TOLD ? "told(" + i + ")" : "number(" + deskOf(i) + ", " + placeOf(i) + ")";
+    }
+
+    private static int deskOf(int i) {
+        return (i - TOLD) / PLACES;
+    }
+
+    private static int placeOf(int i) {
+        return (i - TOLD) % PLACES;
     }
 }
